@@ -632,14 +632,17 @@ public final class LoadsUnseen {
             goesOn(0, goal);
         }
 
-        /** METERS as bits, behind a SEEKING of THE FIRST FIT; worth nothing if it is spent. */
+        /**
+         * METERS as bits, behind a SEEKING of THE FIRST FIT; worth nothing if it is spent. The tally keeps that FIT
+         * all along: with PAIRS METERED as in it, it is still the first that SEEKING meets.
+         */
         long fewestMeters(Tally tally) {
             int frees = findFree();
+            long end = 1L << frees;
             for (int size = 0; size <= frees; size++) {
-                long end = 1L << frees;
                 for (long set = (1L << size) - 1; set < end; set = nextSet(set)) {
                     fix(set, frees, tally.first);
-                    tally.beginAgain(2);
+                    tally.begin(2);
                     seek(tally);
                     if (spent) return 0;
                     if (tally.fits == 1) return bitsOf(set, frees);
@@ -754,22 +757,14 @@ public final class LoadsUnseen {
         final int[] first = new int[PAIR_PLACES];
         int fits = 0;
         private int enough = 0;
-        private boolean keepsFirst = false;
 
         void begin(int newEnough) {
             fits = 0;
             enough = newEnough;
-            keepsFirst = true;
-        }
-
-        void beginAgain(int newEnough) {
-            fits = 0;
-            enough = newEnough;
-            keepsFirst = false;
         }
 
         boolean hasEnough(int[] fit) {
-            if (fits == 0 && keepsFirst) System.arraycopy(fit, 0, first, 0, PAIR_PLACES);
+            if (fits == 0) System.arraycopy(fit, 0, first, 0, PAIR_PLACES);
             fits++;
             return fits >= enough;
         }

@@ -259,10 +259,15 @@ public final class PromisesTest {
     dueFinding(x, "one", 1, x.mean(1), NOUGHT);
     x.reading(1, 5, 4);
     due("10 by 2", x.mean(1), 5);
+    x.reading(1, 5, 3);
+    due("9 by 2", x.mean(1), 4);
+    x.reading(1, 5, 4);
     x.reading(1, 6, 3);
     due("265 by 3", x.mean(1), 88);
     x.reading(1, 0, 250);
     due("265 by 6", x.mean(1), 44);
+    for (int hour = 0; hour < 24; hour++) x.reading(1, hour, hour < 22 ? NONE : 40 * hour);
+    due("40 by 1", x.mean(1), 40);
     x.reading(2, 0, 65535);
     x.reading(2, 23, 65534);
     due("65535 by 23", x.mean(2), 2849);
@@ -367,6 +372,10 @@ public final class PromisesTest {
     down.down(0, true);
     due("left on a LINE that is DOWN", down.fits(1), 0);
     due("tries", down.tries(), 0);
+    x.carried(0, NONE);
+    x.carried(1, NONE);
+    due("sought no more", x.fits(1), 1);
+    due("is 0 again", x.fit(0, 1), 0);
     LoadsUnseen cut = made(2);
     cut.meter(0, 1, 9);
     due("a METERED PAIR that is CUT", cut.fits(1), 1);

@@ -1,32 +1,11 @@
 /** Promises 21 to 24, and what 'Terms' says of changes, failures and meters: each sentence that names a boundary. */
 public final class EdgesOfChangesTest extends Edge {
 
-  /** A chain with a FIT told, (0, 1) 1, (0, 2) 1, (1, 2) 0; the other FIT is 2, 0, 1. */
-  private static LoadsUnseen sought() {
-    LoadsUnseen x = chain();
-    due("many(7)", x.many(7), 1);
-    due("fits(4)", x.fits(4), 1);
-    return x;
-  }
-
-  /** No FIT, by 3 TRIES: (0, 1) is 0, 1, 2, and (0, 2) never 2. */
-  private static LoadsUnseen unfit() {
-    LoadsUnseen x = sought();
-    x.meter(0, 2, 2);
-    return x;
-  }
-
   private static LoadsUnseen based(LoadsUnseen x, int first, int second, int third) {
     x.base(0, 1, first);
     x.base(0, 2, second);
     x.base(1, 2, third);
     return x;
-  }
-
-  private static void dueFit(LoadsUnseen x, int first, int second, int third) {
-    due("fit(0, 1)", x.fit(0, 1), first);
-    due("fit(0, 2)", x.fit(0, 2), second);
-    due("fit(1, 2)", x.fit(1, 2), third);
   }
 
   // ---- 21 base
@@ -105,7 +84,7 @@ public final class EdgesOfChangesTest extends Edge {
     sentence(22, "SPENT");
     for (int n = 1; n <= 6; n++) {
       int few = n;
-      spentNoFit(EdgesOfChangesTest::sought, "changed(" + n + ")", n, x -> x.changed(few));
+      spentNoFit(Edge::sought, "changed(" + n + ")", n, x -> x.changed(few));
     }
     spentNoFit(() -> based(sought(), 1, 1, 0), "SPENT behind a FIT that is the BASE", 6, x -> x.changed(6));
     spentNoFit(Edge::rich, "changed(5)", 5, x -> x.changed(5));
@@ -196,7 +175,7 @@ public final class EdgesOfChangesTest extends Edge {
     sentence(23, "SPENT");
     for (int n = 1; n <= 6; n++) {
       int few = n;
-      spentNoFit(EdgesOfChangesTest::sought, "worst(0, 1, " + n + ")", n, y -> y.worst(0, 1, few));
+      spentNoFit(Edge::sought, "worst(0, 1, " + n + ")", n, y -> y.worst(0, 1, few));
     }
   }
 
@@ -283,13 +262,46 @@ public final class EdgesOfChangesTest extends Edge {
     due("what was METERED stays, and no more is", yet.count(3), 1);
   }
 
+  private static void metersOfMore() {
+    sentence(24, "sets of PAIRS, by how many they are, then as numbers");
+    LoadsUnseen x = made(6, 0, 1, 1, 2, 3, 4, 4, 5);
+    x.carried(0, 1);
+    x.carried(2, 1);
+    // PAIRS 1 and 2 share LINE 0, 22 and 23 LINE 2. THE FIRST FIT 0, 1, 0, 1 by 4; the empty set by 6; {1} by 6, {2} by
+    // 6, {22} by 8, {23} by 9; {1, 2} by 6; {1, 22} by 4: one FIT.
+    dueMeters(x, 2, 1L << 1 | 1L << 22, 49);
+    due("one too few", x.meters(48), SPENT);
+    due("just enough", x.meters(49), 2);
+    sentence(24, "METERED as in THE FIRST FIT: one that has all its LINES carry leaves no other FIT");
+    LoadsUnseen three = made(6, 0, 1, 1, 2, 2, 0, 3, 4, 4, 5, 5, 3);
+    three.carried(0, 1);
+    three.carried(1, 1);
+    three.carried(2, 1);
+    three.carried(3, 0);
+    // Of a ring of 3, (1, 2) and (2, 1) are 1 in THE FIRST FIT; with (2, 1), PAIR 13, at 1 there is no other one, but
+    // with (0, 1), (0, 2), (1, 0), (2, 0) at 0, or (1, 2) at 1.
+    due("one is enough", three.meters(20000), 1);
+    due("asked()", three.asked(), 1L << 13);
+    sentence(24, "not METERED yet (METERED behind an earlier call)");
+    LoadsUnseen then = made(3, 0, 1, 1, 2);
+    then.carried(0, 2);
+    dueMeters(then, 1, 1L << 1, 8);
+    then.meter(0, 2, 1);
+    // (0, 1) 0; 1 with (0, 2) 1: THE FIRST FIT by 3. (0, 1) 2, too: the empty set by 4, and no other FIT.
+    dueMeters(then, 0, 0, 7);
+    sentence(24, "30 PAIRS that SEEKING goes by");
+    dueMeters(ring(0), 0, 0, 60);
+    spent(() -> ring(200), "far too many FITS", 20000, y -> y.meters(20000));
+    for (int n : new int[] {29, 30, 31, 59}) spent(() -> ring(200), "meters(" + n + ")", n, y -> y.meters(n));
+  }
+
   private static void metersTries() {
     sentence(24, "by n TRIES in all (those of one SEEKING behind the other)");
     due("no TRY", new LoadsUnseen().meters(1), 0);
     due("just enough", sought().meters(14), 1);
     for (int n : new int[] {1, 3, 4, 5, 10, 11, 12, 13}) {
       int few = n;
-      spent(EdgesOfChangesTest::sought, "meters(" + n + ")", n, x -> x.meters(few));
+      spent(Edge::sought, "meters(" + n + ")", n, x -> x.meters(few));
     }
     spent(() -> withNoFit(long20001()), "20001 TRIES", 20000, x -> x.meters(20000));
     sentence(24, "SEEKING stops there at a second FIT");
@@ -301,7 +313,7 @@ public final class EdgesOfChangesTest extends Edge {
     due("by just enough", none.meters(3), NONE);
     due("tries()", none.tries(), 3);
     due("asked() is left", none.asked(), 2);
-    spent(EdgesOfChangesTest::unfit, "by one too few", 2, x -> x.meters(2));
+    spent(Edge::unfit, "by one too few", 2, x -> x.meters(2));
     due("20000 TRIES", withNoFit(long20000()).meters(20000), NONE);
     sentence(24, "SPENT");
     spent(Edge::rich, "in THE FIRST FIT", 1, x -> x.meters(1));
@@ -326,6 +338,7 @@ public final class EdgesOfChangesTest extends Edge {
     worstFit();
     worstRefused();
     meters();
+    metersOfMore();
     metersTries();
     end(21, 24);
   }

@@ -1,14 +1,6 @@
 /** Promises 12 to 20, and what 'Terms' says of fits: each sentence that names a boundary. */
 public final class EdgesOfFitsTest extends Edge {
 
-  /** A chain with a FIT told, (0, 1) 1, (0, 2) 1, (1, 2) 0, by 4 TRIES, and asked() 2. */
-  private static LoadsUnseen sought() {
-    LoadsUnseen x = chain();
-    due("many(7)", x.many(7), 1);
-    due("fits(4)", x.fits(4), 1);
-    return x;
-  }
-
   /** A LINE from 0 to 1 that carries so much. */
   private static LoadsUnseen carrying(int v) {
     LoadsUnseen x = made(2, 0, 1);
@@ -195,6 +187,27 @@ public final class EdgesOfFitsTest extends Edge {
     dark.line(3, 0, 1);
     dueFits(dark, 1, 0);
     due("fit(0, 1) by a DARK LINE", dark.fit(0, 1), 0);
+    sentence(14, "12 LINES, all told");
+    LoadsUnseen beside12 = made(2, 0, 1, 0, 1, 0, 1, 0, 1, 0, 1, 0, 1, 0, 1, 0, 1, 0, 1, 0, 1, 0, 1, 0, 1);
+    for (int line = 0; line < 12; line++) beside12.carried(line, 0);
+    dueFits(beside12, 1, 1);
+    beside12.carried(0, 200);
+    dueFits(beside12, 1, 1);
+    due("fit(0, 1)", beside12.fit(0, 1), 200);
+    beside12.carried(11, 1);
+    dueFits(beside12, 0, 1);
+    sentence(14, "30 PAIRS, all sought");
+    dueFits(ring(0), 1, 30);
+    due("just enough", ring(0).fits(30), 1);
+    due("one too few", ring(0).fits(29), SPENT);
+    LoadsUnseen ring = ring(200);
+    // (4, 5) is the last on LINE 4, (5, 4) on all the others.
+    dueFits(ring, 1, 30);
+    for (int a = 0; a < 6; a++) {
+      for (int b = 0; b < 6; b++) {
+        if (a != b) due("fit(" + a + ", " + b + ")", ring.fit(a, b), a + b == 9 ? 200 : 0);
+      }
+    }
     sentence(14, "no LINES at all");
     dueFits(new LoadsUnseen(), 1, 0);
     LoadsUnseen wide = made(6);
@@ -214,16 +227,16 @@ public final class EdgesOfFitsTest extends Edge {
     sentence(14, "SPENT");
     for (int n = 1; n <= 3; n++) {
       int few = n;
-      spentNoFit(EdgesOfFitsTest::sought, "fits(" + n + ")", n, x -> x.fits(few));
+      spentNoFit(Edge::sought, "fits(" + n + ")", n, x -> x.fits(few));
     }
     due("fits(4)", sought().fits(4), 1);
     due("fits(5)", sought().fits(5), 1);
     spentNoFit(Edge::rich, "fits(1)", 1, x -> x.fits(1));
     sentence(14, "Whether there is a FIT: 0");
-    LoadsUnseen none = metered(sought(), 0, 2, 2);
+    LoadsUnseen none = unfit();
     due("by just enough", none.fits(3), 0);
     due("tries()", none.tries(), 3);
-    spentNoFit(() -> metered(sought(), 0, 2, 2), "by one too few", 2, x -> x.fits(2));
+    spentNoFit(Edge::unfit, "by one too few", 2, x -> x.fits(2));
     sentence(14, "1, 0 leave the net, asked() and findings as they were");
     LoadsUnseen x = sought();
     long digest = x.digest();
@@ -234,12 +247,6 @@ public final class EdgesOfFitsTest extends Edge {
   }
 
   // ---- 15 fit
-
-  private static void dueFit(LoadsUnseen x, int first, int second, int third) {
-    due("fit(0, 1)", x.fit(0, 1), first);
-    due("fit(0, 2)", x.fit(0, 2), second);
-    due("fit(1, 2)", x.fit(1, 2), third);
-  }
 
   private static void fit() {
     sentence(15, "NONE: there is none (before any)");
@@ -271,14 +278,14 @@ public final class EdgesOfFitsTest extends Edge {
     dueFit(others, 1, 1, 0);
     due("a PAIR that was CUT", others.fit(2, 0), 0);
     sentence(15, "NONE: there is none (the latest told none)");
-    LoadsUnseen none = metered(sought(), 0, 2, 2);
+    LoadsUnseen none = unfit();
     dueFit(none, 1, 1, 0);
     due("fits", none.fits(20), 0);
     dueFit(none, NONE, NONE, NONE);
-    none = metered(sought(), 0, 2, 2);
+    none = unfit();
     due("changed", none.changed(20), NONE);
     dueFit(none, NONE, NONE, NONE);
-    none = metered(sought(), 0, 2, 2);
+    none = unfit();
     due("worst", none.worst(0, 1, 20), NONE);
     dueFit(none, NONE, NONE, NONE);
     due("a PAIR that is CUT", none.fit(2, 0), NONE);
@@ -322,6 +329,8 @@ public final class EdgesOfFitsTest extends Edge {
     dueMany(chain(), 2, 7);
     dueMany(metered(sharing(0), 1, 2, 200), 1, 3);
     dueMany(long20000(), 9900, 20000);
+    dueMany(ring(0), 1, 30);
+    spent(() -> ring(200), "30 PAIRS, far too many FITS", 20000, x -> x.many(20000));
     sentence(16, "by n TRIES (1 .. 20000)");
     due("no TRY", new LoadsUnseen().many(1), 1);
     due("one TRY", carrying(7).many(1), 1);
@@ -330,7 +339,7 @@ public final class EdgesOfFitsTest extends Edge {
     sentence(16, "SPENT");
     for (int n = 1; n <= 6; n++) {
       int few = n;
-      spent(EdgesOfFitsTest::sought, "many(" + n + ")", n, x -> x.many(few));
+      spent(Edge::sought, "many(" + n + ")", n, x -> x.many(few));
     }
     spent(Edge::rich, "many(5)", 5, x -> x.many(5));
     sentence(16, "BAD");
@@ -361,6 +370,18 @@ public final class EdgesOfFitsTest extends Edge {
     dueBounds(carrying(200), 0, 1, 200, 200);
     dueBounds(metered(made(2, 0, 1), 0, 1, 200), 0, 1, 200, 200);
     dueBounds(sharing(200), 1, 2, 0, 0);
+    sentence(17, "over all FITS (as they are now, not as an earlier call met them)");
+    LoadsUnseen anew = sharing(200);
+    dueBounds(anew, 0, 1, 0, 200);
+    anew.carried(0, 3);
+    dueBounds(anew, 0, 1, 0, 3);
+    anew.meter(0, 2, 1);
+    dueBounds(anew, 0, 1, 2, 2);
+    anew.meter(0, 2, 4);
+    dueBounds(anew, 0, 1, NONE, NONE);
+    anew.meter(0, 2, NONE);
+    dueBounds(anew, 0, 1, 0, 3);
+    dueBounds(ring(0), 5, 4, 0, 0);
     sentence(17, "CUT ones are 0 always");
     dueBounds(metered(chain(), 2, 0, 200), 2, 0, 0, 0);
     dueBounds(new LoadsUnseen(), 1, 0, 0, 0);
@@ -377,8 +398,8 @@ public final class EdgesOfFitsTest extends Edge {
     sentence(17, "SPENT");
     for (int n = 1; n <= 6; n++) {
       int few = n;
-      spent(EdgesOfFitsTest::sought, "LEAST by " + n, n, x -> x.bound(0, 1, false, few));
-      spent(EdgesOfFitsTest::sought, "MOST by " + n, n, x -> x.bound(2, 0, true, few));
+      spent(Edge::sought, "LEAST by " + n, n, x -> x.bound(0, 1, false, few));
+      spent(Edge::sought, "MOST by " + n, n, x -> x.bound(2, 0, true, few));
     }
     sentence(17, "BAD");
     for (int n : NO_TRIES) bad(Edge::rich, "n " + n, x -> x.bound(0, 1, true, n));
@@ -390,7 +411,7 @@ public final class EdgesOfFitsTest extends Edge {
       int same = knot;
       bad(Edge::rich, "the same KNOT", x -> x.bound(same, same, false, 20000));
     }
-    bad(EdgesOfFitsTest::sought, "BAD ahead of SPENT", x -> x.bound(0, 3, false, 1));
+    bad(Edge::sought, "BAD ahead of SPENT", x -> x.bound(0, 3, false, 1));
   }
 
   // ---- 18 sure
@@ -403,6 +424,16 @@ public final class EdgesOfFitsTest extends Edge {
     due("all are, at the most", carrying(200).sure(20000), 1);
     due("all are, of 30", made(6, 0, 1, 1, 2, 2, 3, 3, 4, 4, 5, 5, 0).sure(1), 30);
     due("a METERED one is, and the others by it", metered(chain(), 0, 2, 1).sure(20000), 3);
+    due("all are, of 30 that are sought", ring(0).sure(30), 30);
+    sentence(18, "as FITS are now, not as an earlier call met them");
+    LoadsUnseen anew = sharing(200);
+    due("one", anew.sure(20000), 1);
+    anew.carried(0, 0);
+    due("three", anew.sure(20000), 3);
+    anew.meter(0, 1, 1);
+    due("no FIT", anew.sure(20000), NONE);
+    anew.meter(0, 1, NONE);
+    due("three", anew.sure(20000), 3);
     sentence(18, "CUT ones aside");
     due("both are CUT", new LoadsUnseen().sure(1), 0);
     due("both are CUT, one METERED", metered(new LoadsUnseen(), 0, 1, 5).sure(1), 0);
@@ -418,7 +449,7 @@ public final class EdgesOfFitsTest extends Edge {
     sentence(18, "SPENT");
     for (int n = 1; n <= 6; n++) {
       int few = n;
-      spent(EdgesOfFitsTest::sought, "sure(" + n + ")", n, x -> x.sure(few));
+      spent(Edge::sought, "sure(" + n + ")", n, x -> x.sure(few));
     }
     sentence(18, "BAD");
     for (int n : NO_TRIES) bad(Edge::rich, "sure(" + n + ")", x -> x.sure(n));
@@ -454,13 +485,12 @@ public final class EdgesOfFitsTest extends Edge {
     dueTries("meters, behind it", x -> x.meters(4), 4);
     dueTries("meters, one too few", x -> x.meters(13), 13);
     sentence(19, "no FIT: as many as were made");
-    Made unfit = () -> metered(sought(), 0, 2, 2);
     Call[] seeking = {
       x -> x.fits(9), x -> x.many(9), x -> x.bound(0, 1, true, 9), x -> x.sure(9), x -> x.changed(9),
       x -> x.worst(0, 1, 9), x -> x.meters(9)
     };
     for (int i = 0; i < seeking.length; i++) {
-      LoadsUnseen x = unfit.anew();
+      LoadsUnseen x = unfit();
       seeking[i].on(x);
       due("call " + i, x.tries(), 3);
     }
@@ -484,7 +514,7 @@ public final class EdgesOfFitsTest extends Edge {
         x -> x.fits(n), x -> x.many(n), x -> x.bound(0, 1, true, n), x -> x.sure(n), x -> x.changed(n),
         x -> x.worst(0, 1, n), x -> x.meters(n)
       };
-      for (Call one : bad) bad(EdgesOfFitsTest::sought, "n " + n, one);
+      for (Call one : bad) bad(Edge::sought, "n " + n, one);
     }
     Made down = () -> {
       LoadsUnseen x = sought();
@@ -531,6 +561,8 @@ public final class EdgesOfFitsTest extends Edge {
     due("12 LINES of 200", most.guess(0, 5), 2400);
     due("the other way", most.guess(5, 0), 0);
     due("from another one", most.guess(1, 5), 0);
+    for (int line = 0; line < 12; line++) most.down(line, true);
+    due("DOWN or not", most.guess(0, 5), 2400);
     sentence(20, "a PAIR that is CUT, too");
     LoadsUnseen cut = made(4, 0, 1, 2, 3);
     cut.carried(0, 6);

@@ -46,7 +46,8 @@ public final class EdgesOfNetTest extends Edge {
       due("the PAIR of it", x.meter(k, 0, 1), BAD);
     }
     sentence(2, "BAD");
-    for (int k : new int[] {LEAST, NONE, -2, -1, 0, 1, 7, 8, MOST}) bad(Edge::rich, "net(" + k + ")", x -> x.net(k));
+    int[] none = {LEAST, NONE, -2, -1, 0, 1, 7, 8, MOST};
+    for (int k : none) bad(Edge::rich, "net(" + k + ")", x -> x.net(k));
     sentence(2, "no LINES");
     LoadsUnseen x = full();
     due("the LINE behind the last", x.line(0, 0, 1), FULL);
@@ -89,6 +90,15 @@ public final class EdgesOfNetTest extends Edge {
         }
       }
     }
+    sentence(2, "nothing told: SEEKING goes by what is told behind it");
+    LoadsUnseen sought = full();
+    for (int line = 0; line < 12; line++) sought.carried(line, 9);
+    sought.fits(20000);
+    sought.net(2);
+    sought.line(0, 0, 1);
+    due("fits(1)", sought.fits(1), 1);
+    due("tries()", sought.tries(), 0);
+    due("fit(0, 1)", sought.fit(0, 1), 0);
     sentence(2, "nothing told: no FIT");
     LoadsUnseen z = rich();
     z.net(4);
@@ -168,7 +178,7 @@ public final class EdgesOfNetTest extends Edge {
     x.rate(1, 0);
     int[][] due = {{3, 5, 4, 0, NONE, 100}, {1, 0, 5, 1, 0, 0}};
     for (int line = 0; line < 2; line++) {
-      for (int what = 0; what <= 5; what++) due("told(" + line + ", " + what + ")", x.told(line, what), due[line][what]);
+      for (int what = 0; what <= 5; what++) due("told " + what, x.told(line, what), due[line][what]);
     }
     x.carried(1, 200);
     x.rate(1, 60000);
@@ -179,7 +189,8 @@ public final class EdgesOfNetTest extends Edge {
     x.carried(1, NONE);
     due("not told any more", x.told(1, 4), NONE);
     sentence(4, "BAD: no such number");
-    for (int what : new int[] {LEAST, NONE, -1, 6, MOST}) bad(Edge::rich, "told(0, " + what + ")", y -> y.told(0, what));
+    int[] none = {LEAST, NONE, -1, 6, MOST};
+    for (int what : none) bad(Edge::rich, "told(0, " + what + ")", y -> y.told(0, what));
     sentence(4, "BAD: no such LINE");
     for (int line : NO_LINE) bad(Edge::rich, "told(" + line + ", 0)", y -> y.told(line, 0));
     LoadsUnseen full = full();
@@ -220,11 +231,14 @@ public final class EdgesOfNetTest extends Edge {
       int one = line;
       bad(Edge::rich, "mark(" + line + ", 0)", y -> y.mark(one, 0));
     }
-    for (int kind : new int[] {LEAST, NONE, -1, 4, MOST}) bad(Edge::rich, "mark(1, " + kind + ")", y -> y.mark(1, kind));
+    int[] none = {LEAST, NONE, -1, 4, MOST};
+    for (int kind : none) bad(Edge::rich, "mark(1, " + kind + ")", y -> y.mark(1, kind));
     for (int line : NO_LINE) bad(Edge::rich, "mark(" + line + ", 1)", y -> y.mark(line, 1));
     sentence(5, "UNLIKE");
     int[][] unlike = {{0, 1}, {0, 2}, {0, 3}, {1, 2}, {1, 3}, {2, 3}, {3, 1}, {3, 2}};
-    for (int[] one : unlike) found(Edge::rich, "mark(" + one[0] + ", " + one[1] + ")", UNLIKE, y -> y.mark(one[0], one[1]));
+    for (int[] one : unlike) {
+      found(Edge::rich, "mark(" + one[0] + ", " + one[1] + ")", UNLIKE, y -> y.mark(one[0], one[1]));
+    }
   }
 
   // ---- 6 down
@@ -275,7 +289,8 @@ public final class EdgesOfNetTest extends Edge {
       due("told", x.told(line, 5), 1);
     }
     sentence(7, "BAD");
-    for (int r : new int[] {LEAST, NONE, -1, 60001, 65536, MOST}) bad(Edge::rich, "rate(2, " + r + ")", x -> x.rate(2, r));
+    int[] none = {LEAST, NONE, -1, 60001, 65536, MOST};
+    for (int r : none) bad(Edge::rich, "rate(2, " + r + ")", x -> x.rate(2, r));
     for (int line : NO_LINE) bad(Edge::rich, "rate(" + line + ", 1)", x -> x.rate(line, 1));
   }
 
@@ -283,7 +298,9 @@ public final class EdgesOfNetTest extends Edge {
 
   private static void reading() {
     sentence(8, "cut to its counter (0 .. 255, 0 .. 65535): what it was");
-    int[][] counted = {{0, 0}, {1, 1}, {255, 255}, {256, 0}, {257, 1}, {65535, 255}, {65536, 0}, {MOST - 1, 254}, {MOST, 255}};
+    int[][] counted = {
+      {0, 0}, {1, 1}, {255, 255}, {256, 0}, {257, 1}, {65535, 255}, {65536, 0}, {MOST - 1, 254}, {MOST, 255}
+    };
     for (int[] one : counted) dueReading(1, one[0], one[1]);
     int[][] metered = {{0, 0}, {256, 256}, {65535, 65535}, {65536, 0}, {65537, 1}, {MOST - 1, 65534}, {MOST, 65535}};
     for (int[] one : metered) dueReading(2, one[0], one[1]);
@@ -476,6 +493,15 @@ public final class EdgesOfNetTest extends Edge {
     dueRoute(made(2, 1, 0), 1, 0, 0);
     dueRoute(made(6, 4, 5, 3, 4, 2, 3, 1, 2, 0, 1), 0, 5, 4, 3, 2, 1, 0);
     dueRoute(made(6, 0, 1, 1, 2, 2, 3, 3, 4, 4, 5, 5, 0), 5, 4, 5, 0, 1, 2, 3);
+    LoadsUnseen ring = ring(0);
+    for (int a = 0; a < 6; a++) {
+      for (int b = 0; b < 6; b++) {
+        if (a == b) continue;
+        int[] lines = new int[(b - a + 6) % 6];
+        for (int i = 0; i < lines.length; i++) lines[i] = (a + i) % 6;
+        dueRoute(ring, a, b, lines);
+      }
+    }
     sentence(11, "from a to b (a LINE goes one way)");
     dueCut(made(2, 1, 0), 0, 1);
     dueCut(made(6, 0, 1, 1, 2, 2, 3, 3, 4, 4, 5), 5, 0);

@@ -1,4 +1,6 @@
-/** Promises 25 to 29: each sentence that names a boundary. In rich() SHEET 0 has 3 bytes, 1 none, 3 24; 2 is missing. */
+/**
+ * Promises 25 to 29: each sentence that names a boundary. In rich() SHEETS 0, 1, 3 have 3, 0, 24 bytes; 2 is missing.
+ */
 public final class EdgesOfSheetsTest extends Edge {
 
   /** A SHEET 0 with the bytes 1, 2, .. */
@@ -41,7 +43,10 @@ public final class EdgesOfSheetsTest extends Edge {
     due("more", x.sheet(0, 24), 24);
     dueBytes(x, 0, new int[24]);
     sentence(25, "BAD");
-    for (int s : NO_SHEET) for (int n : new int[] {0, 24}) bad(Edge::rich, "sheet(" + s + ", " + n + ")", y -> y.sheet(s, n));
+    for (int s : NO_SHEET) {
+      bad(Edge::rich, "sheet(" + s + ", 0)", y -> y.sheet(s, 0));
+      bad(Edge::rich, "sheet(" + s + ", 24)", y -> y.sheet(s, 24));
+    }
     sentence(25, "BAD: also n above 24");
     for (int n : new int[] {25, 26, 256, MOST}) bad(Edge::rich, "sheet(0, " + n + ")", y -> y.sheet(0, n));
     sentence(25, "SIZE (fewer than none)");
@@ -81,7 +86,8 @@ public final class EdgesOfSheetsTest extends Edge {
     found(Edge::rich, "ahead of BEYOND", NOTHING, y -> y.lay(2, -1, 1));
     found(Edge::rich, "ahead of BEYOND", NOTHING, y -> y.lay(2, 24, 1));
     sentence(26, "BEYOND");
-    for (int i : new int[] {LEAST, NONE, -1, 3, 4, 23, 24, MOST}) found(Edge::rich, "lay(0, " + i + ", 1)", BEYOND, y -> y.lay(0, i, 1));
+    int[] none = {LEAST, NONE, -1, 3, 4, 23, 24, MOST};
+    for (int i : none) found(Edge::rich, "lay(0, " + i + ", 1)", BEYOND, y -> y.lay(0, i, 1));
     for (int i : new int[] {-1, 24, 25, MOST}) found(Edge::rich, "lay(3, " + i + ", 1)", BEYOND, y -> y.lay(3, i, 1));
     for (int i : new int[] {-1, 0, 1}) found(Edge::rich, "lay(1, " + i + ", 1)", BEYOND, y -> y.lay(1, i, 1));
   }

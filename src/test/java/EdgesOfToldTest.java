@@ -91,7 +91,8 @@ public final class EdgesOfToldTest extends Edge {
     for (int line = 0; line < 12; line++) most.down(line, true);
     dueCounts(most, 6, 12, 11, 29, 30);
     sentence(31, "BAD");
-    for (int what : new int[] {LEAST, NONE, -1, 5, 6, MOST}) bad(Edge::rich, "count(" + what + ")", x -> x.count(what));
+    int[] none = {LEAST, NONE, -1, 5, 6, MOST};
+    for (int what : none) bad(Edge::rich, "count(" + what + ")", x -> x.count(what));
   }
 
   // ---- 32 finding
@@ -152,7 +153,8 @@ public final class EdgesOfToldTest extends Edge {
     int[] due = {2, 1, 2, 1, 1};
     for (int f = 1; f <= 5; f++) due("findings(" + f + ")", x.findings(f), due[f - 1]);
     sentence(33, "BAD");
-    for (int f : new int[] {LEAST, NONE, -1, 0, 6, MOST}) bad(Edge::rich, "findings(" + f + ")", y -> y.findings(f));
+    int[] none = {LEAST, NONE, -1, 0, 6, MOST};
+    for (int f : none) bad(Edge::rich, "findings(" + f + ")", y -> y.findings(f));
   }
 
   // ---- 34 digest

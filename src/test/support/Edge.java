@@ -205,6 +205,28 @@ class Edge {
     return x;
   }
 
+  /** A chain with a FIT told, (0, 1) 1, (0, 2) 1, (1, 2) 0, by 4 TRIES, and asked() 2; the other FIT is 2, 0, 1. */
+  static LoadsUnseen sought() {
+    LoadsUnseen x = chain();
+    due("many(7)", x.many(7), 1);
+    due("fits(4)", x.fits(4), 1);
+    return x;
+  }
+
+  /** The same, but with no FIT any more, by 3 TRIES: (0, 1) is 0, 1, 2, and (0, 2) never 2. */
+  static LoadsUnseen unfit() {
+    LoadsUnseen x = sought();
+    due("meter", x.meter(0, 2, 2), NONE);
+    return x;
+  }
+
+  /** What the PAIRS of a chain are in the FIT that is told. */
+  static void dueFit(LoadsUnseen x, int first, int second, int third) {
+    due("fit(0, 1)", x.fit(0, 1), first);
+    due("fit(0, 2)", x.fit(0, 2), second);
+    due("fit(1, 2)", x.fit(1, 2), third);
+  }
+
   /**
    * All FITS by just 20000 TRIES: (2, 3) and (2, 4) share LINE 0, which carries 99, (5, 3) and (5, 4) LINE 1, which
    * carries 98: 100 + 100 + 100 times (99 + 99). (0, 1) goes by LINE 3 alone; METERED, it is one TRY more, ahead.
@@ -219,6 +241,13 @@ class Edge {
   static LoadsUnseen long20001() {
     LoadsUnseen x = long20000();
     x.meter(0, 1, 7);
+    return x;
+  }
+
+  /** LINE a goes from KNOT a to the next one, of 6; each carries so much. All 30 PAIRS are sought. */
+  static LoadsUnseen ring(int v) {
+    LoadsUnseen x = made(6, 0, 1, 1, 2, 2, 3, 3, 4, 4, 5, 5, 0);
+    for (int line = 0; line < 6; line++) x.carried(line, v);
     return x;
   }
 

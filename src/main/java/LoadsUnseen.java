@@ -640,12 +640,15 @@ public final class LoadsUnseen {
             int frees = findFree();
             long end = 1L << frees;
             for (int size = 0; size <= frees; size++) {
-                for (long set = (1L << size) - 1; set < end; set = nextSet(set)) {
+                long set = (1L << size) - 1;
+                // Each set but the empty one takes a TRY at least, so SEEKING is spent ahead of this bound.
+                for (int tried = 0; tried <= MOST_TRIES && set < end; tried++) {
                     fix(set, frees, tally.first);
                     tally.begin(2);
                     seek(tally);
                     if (spent) return 0;
                     if (tally.fits == 1) return bitsOf(set, frees);
+                    set = nextSet(set);
                 }
             }
             return 0;

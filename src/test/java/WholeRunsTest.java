@@ -204,8 +204,11 @@ public final class WholeRunsTest {
     else callOfChanges(1 + random.nextInt(3));
   }
 
+  /** A net, now and then none but that of a new object, which is looked at first. */
   private void begin() {
-    net(2 + random.nextInt(5));
+    due("fit(0, 1)", x.fit(0, 1), model.fit(0, 1));
+    due("digest()", x.digest(), model.digest());
+    if (random.nextInt(8) != 0) net(2 + random.nextInt(5));
     for (int i = random.nextInt(13); i > 0; i--) {
       int from = random.nextInt(model.count(0));
       addLine(random.nextInt(4), from, (from + 1 + random.nextInt(model.count(0) - 1)) % model.count(0));
